@@ -331,6 +331,9 @@ public final class FunctionsTest {
         Due.is("one other calls it", x.ofFunction(1, 9), 1);
         Due.is("no other calls it", x.ofFunction(2, 9), 0);
         Due.is("steps", x.ofFunction(1, 0), 2);
+        x.step(0, 43);
+        Due.is("the first one calls it", x.ofFunction(3, 9), 1);
+        x.unstep(0);
         x.run(3, 2, 1);
         x.run(2, 2, 1);
         Due.is("from outside, too", x.ofFunction(3, 10), 1);

@@ -19,6 +19,8 @@ public final class RunsTest {
         latestAndManyRefusals();
         meanCosts();
         tolls();
+        typableIsNotTyped();
+        theTenthOne();
         Due.end();
     }
 
@@ -121,6 +123,11 @@ public final class RunsTest {
         Due.is("not the caller", x.blamed(g), 0);
         Due.is("from outside nothing is asked of what it gives", x.run(f, 1, 4), 0);
         latest(x, "outside", 0, Build.NONE, 0, 0, 0, 1, 4, 1);
+        x.step(g, Build.SHOW);
+        x.hint(g, Build.ANY, Build.TEXT);
+        x.type(g, true);
+        Due.is("its own out is asked for", x.run(g, 2, 0), 0);
+        latest(x, "and not that of who called", 0, Build.NONE, 5, 1, 0, 1, 4, 2);
     }
 
     private static void noGuardForAny() {
@@ -434,6 +441,35 @@ public final class RunsTest {
         Due.is("all costs", x.many(7), 7);
         Due.is("all runs", x.many(5), 3);
         Due.is("all failures", x.many(6), 2);
+    }
+
+    private static void typableIsNotTyped() {
+        TypecheckStation x = new TypecheckStation();
+        int f = Build.function(x, Build.TEXT, Build.NUMBER, Build.LENGTH);
+        Due.is("it can be typed", x.many(2), 1);
+        Due.is("but is not, so no guard holds a number off", x.run(f, 0, 1), 1);
+        latest(x, "it is to blame", 1, f, 1, 0, 0, 3, 0, 1);
+    }
+
+    /** The last rows of all tables. */
+    private static void theTenthOne() {
+        TypecheckStation x = Build.stationOf(10);
+        x.step(9, Build.CALL + 9);
+        x.step(9, Build.CALL);
+        x.hint(0, Build.NUMBER, Build.ANY);
+        x.type(0, true);
+        Due.is("too deep", x.run(9, 0, 1), 4);
+        Due.is("it called itself", x.counted(9, 9), 11);
+        x.unstep(9);
+        x.unstep(9);
+        x.step(9, Build.CALL);
+        Due.is("it calls the first one", x.run(9, 0, 1), 0);
+        Due.is("that is counted once", x.counted(9, 0), 1);
+        Due.is("and no call of the run before again", x.counted(9, 9), 11);
+        Due.is("called in all", x.ofFunction(9, 10), 2 + 11);
+        Due.is("the first one in all", x.ofFunction(0, 10), 1);
+        Due.is("toll of the last pair", x.many(8), 2);
+        Due.is("toll of outside and the first one", x.run(0, 0, 1) + x.many(8), 4);
     }
 
     private static void tolls() {

@@ -261,26 +261,35 @@ public final class RunsTest {
         Due.is("guards ahead of depth", y.run(f, 1, 1), 2);
         Due.is("blamed", y.latest(1), f);
         Due.is("a failing guard is counted", y.counted(f, g), 1);
-        Due.is("twelve are fine at their guards", deepGuard(), 2);
+        guardOfTheTwelfth();
     }
 
-    /** The twelfth one is called with what it does not take. */
-    private static int deepGuard() {
-        TypecheckStation x = Build.stationOf(8);
-        int last = Build.typed(x, Build.TEXT, Build.NUMBER, Build.LENGTH);
-        int loop = Build.function(x, 3, 3, Build.CALL + last);
-        for (int i = 0; i < 7; i++) {
+    /** Nine call one another in a ring; the value becomes a text on the way round. */
+    private static TypecheckStation ring(int typed) {
+        TypecheckStation x = Build.stationOf(9);
+        for (int i = 0; i < 8; i++) {
             x.step(i, Build.CALL + i + 1);
         }
-        x.step(7, Build.CALL + loop);
-        int failure = x.run(0, 2, 1);
-        Due.is("ten in each other", x.latest(7), 10);
-        Due.is("the one that calls last", x.latest(1), loop);
-        return failure;
+        x.step(8, Build.SHOW);
+        x.step(8, Build.CALL);
+        x.hint(typed, Build.NUMBER, Build.ANY);
+        x.type(typed, true);
+        return x;
     }
 
-    private static void twoHundredSteps() {
-        TypecheckStation x = Build.stationOf(4);
+    private static void guardOfTheTwelfth() {
+        TypecheckStation x = ring(2);
+        Due.is("the twelfth fails at its guard", x.run(0, 0, 1), 2);
+        latest(x, "the twelfth", 2, 1, 9 + 3 + 4, 2, 0, 3, 0, 12);
+        TypecheckStation y = ring(3);
+        Due.is("the thirteenth does not come to it", y.run(0, 0, 1), 4);
+        latest(y, "the thirteenth", 4, Build.NONE, 10 + 3 + 2, 1, 0, 3, 0, 12);
+        Due.is("nor is it counted", y.counted(2, 3), 1);
+    }
+
+    /** A run of 2 takes 4 * 43 + 7 steps, of 1 it takes 42, and of 0 it takes 6. */
+    private static TypecheckStation manySteps() {
+        TypecheckStation x = Build.stationOf(5);
         for (int i = 0; i < 6; i++) {
             x.step(0, 0);
             x.step(1, 40);
@@ -289,6 +298,11 @@ public final class RunsTest {
             x.step(2, 41);
         }
         x.step(2, 40);
+        return x;
+    }
+
+    private static void twoHundredSteps() {
+        TypecheckStation x = manySteps();
         Due.is("4 * 43 + 7", x.run(2, 0, 1), 0);
         Due.is("179 steps", x.latest(2), 179);
         x.step(2, 40);
@@ -313,15 +327,7 @@ public final class RunsTest {
     }
 
     private static void exactlyTwoHundred() {
-        TypecheckStation x = Build.stationOf(5);
-        for (int i = 0; i < 6; i++) {
-            x.step(0, 0);
-            x.step(1, 40);
-        }
-        for (int i = 0; i < 4; i++) {
-            x.step(2, 41);
-        }
-        x.step(2, 40);
+        TypecheckStation x = manySteps();
         x.step(2, 40);
         x.step(3, 42);
         x.step(3, 40);

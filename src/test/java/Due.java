@@ -7,8 +7,14 @@ final class Due {
 
     private static int asked = 0;
     private static int wrong = 0;
+    private static String sentence = "";
 
     private Due() {
+    }
+
+    /** The words of the document that the answers from here on are due by. */
+    static void sentence(String words) {
+        sentence = words + ": ";
     }
 
     static void is(String what, long got, long want) {
@@ -44,7 +50,7 @@ final class Due {
     /** The very class is due: the machine's own exceptions are classes below these. */
     private static void isThrown(TypecheckStation x, String what, Class<?> want, Call call) {
         asked++;
-        long before = x.digest();
+        String before = stateOf(x);
         Class<?> got = null;
         try {
             call.make();
@@ -54,15 +60,29 @@ final class Due {
         if (got != want) {
             tell(what + " threw " + got + ", due is " + want);
         }
-        if (x.digest() != before) {
+        if (!stateOf(x).equals(before)) {
             tell(what + " changed something");
         }
+    }
+
+    /** All that the answers tell: the digest leaves out the budget, and who counted whom. */
+    static String stateOf(TypecheckStation x) {
+        StringBuilder state = new StringBuilder();
+        int budget = x.budget(0);
+        x.budget(budget);
+        state.append(budget).append(' ').append(x.digest()).append(' ').append(x.meanCost());
+        for (int one = -1; one < x.many(0); one++) {
+            for (int other = 0; other < x.many(0); other++) {
+                state.append(' ').append(x.counted(one, other));
+            }
+        }
+        return state.toString();
     }
 
     private static void tell(String line) {
         wrong++;
         if (wrong <= 50) {
-            System.out.println(line);
+            System.out.println(sentence + line);
         }
     }
 

@@ -5,6 +5,8 @@
 public final class ModelTest {
     private static final int STATIONS = 1500;
     private static final int CALLS = 150;
+    /** With these, and what is written ahead of them, a station has had its 512 calls at most. */
+    private static final int MOST_CALLS = 400;
     private static final int[] ODD = {Integer.MIN_VALUE, -1000, -2, -1, 4, 10, 11, 21, 25, 50, 1000,
         Integer.MAX_VALUE};
     private static final int[] PLAIN = {0, 1, 9, 20, 21, 22, 23, 24};
@@ -59,7 +61,8 @@ public final class ModelTest {
         if (number % 4 >= 2) {
             writeWhatFits();
         }
-        for (int i = 0; i < CALLS; i++) {
+        int calls = number % 100 < 4 ? MOST_CALLS : CALLS;
+        for (int i = 0; i < calls; i++) {
             one(number % 4 != 0 && below(3) == 0 ? 11 : below(26));
             if (i % 10 == 9) {
                 Due.is("digest", x.digest(), model.digest());

@@ -179,6 +179,8 @@ public final class CallsEdgesTest {
         Due.is("one step is enough", x.ofFunction(0, 9), 9);
         x.unstep(9);
         Due.is("none is not", x.ofFunction(0, 9), 8);
+        x.step(0, Build.CALL + 9);
+        Due.is("the first one calls the last one", x.ofFunction(9, 9), 1);
     }
 
     private static void calledFromOutside() {
@@ -193,6 +195,10 @@ public final class CallsEdgesTest {
         Due.is("and from the other one", x.ofFunction(0, 10), 3);
         x.unstep(1);
         Due.is("what was stays counted", x.ofFunction(0, 10), 3);
+        TypecheckStation y = Build.stationOf(10);
+        y.step(9, Build.CALL);
+        y.run(9, FLAG, 1);
+        Due.is("by the last one", y.ofFunction(0, 10), 1);
     }
 
     private static void manyThatCanBe() {
@@ -484,13 +490,13 @@ public final class CallsEdgesTest {
         int checks = x.many(4);
         Due.is("as they are", x.untyped(0, NUMBER, NUMBER), 0);
         Due.is("in alone", x.untyped(0, TEXT, NUMBER), 2);
+        Due.is("in is as it was", x.ofFunction(0, 1), NUMBER);
         Due.is("out alone", x.untyped(0, NUMBER, TEXT), 2);
+        Due.is("out is as it was", x.ofFunction(0, 2), NUMBER);
         Due.is("any in", x.untyped(0, ANY, NUMBER), 1);
         Due.is("any out", x.untyped(0, NUMBER, ANY), 1);
         Due.is("of one that is not", x.untyped(2, TEXT, TEXT), 0);
         Due.is("they are, as they were", x.many(1), 2);
-        Due.is("in, as it was", x.ofFunction(0, 1), NUMBER);
-        Due.is("out, as it was", x.ofFunction(0, 2), NUMBER);
         Due.is("no checks", x.many(4), checks);
     }
 

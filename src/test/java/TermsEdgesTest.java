@@ -160,8 +160,8 @@ public final class TermsEdgesTest {
 
     private static void showOfNumbers() {
         Due.sentence("of a NUMBER as long as it has digits, and 1 longer below 0");
-        int[] ends = {0, 9, 10, 99, 100, 999};
-        int[] lengths = {1, 1, 2, 2, 3, 3};
+        int[] ends = {0, 1, 9, 10, 99, 100, 999};
+        int[] lengths = {1, 1, 1, 2, 2, 3, 3};
         for (int i = 0; i < ends.length; i++) {
             makes(Build.SHOW, NUMBER, ends[i], TEXT, lengths[i]);
             if (ends[i] != 0) {
